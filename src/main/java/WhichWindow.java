@@ -649,7 +649,7 @@ public final class WhichWindow {
 
         private final int[] tape = new int[MOST];
         private int size;
-        private Law counts = new Law();
+        private Law inForce = new Law();
         private Law draft = new Law();
         private final int[] told = new int[6];
         // A law may be long and is asked for thousands of nights in one call, so each answer is kept:
@@ -658,7 +658,7 @@ public final class WhichWindow {
         private final int[] stepOfPage = new int[PAGES];
 
         Book() {
-            counts.read(FIRST_LAW, FIRST_LAW.length);
+            inForce.read(FIRST_LAW, FIRST_LAW.length);
             forget();
         }
 
@@ -677,8 +677,8 @@ public final class WhichWindow {
             if (fault >= 0) {
                 return -100 - fault;
             }
-            Law old = counts;
-            counts = draft;
+            Law old = inForce;
+            inForce = draft;
             draft = old;
             forget();
             return 1;
@@ -692,10 +692,10 @@ public final class WhichWindow {
 
         /** Whether the law puts a window on (1, 0); abm: a, and 2 times b, and 4 times m. */
         int putsOn(int window, int abm, int others, int step) {
-            int page = openPage(counts.names(Law.STEP) ? step : 0);
+            int page = openPage(inForce.names(Law.STEP) ? step : 0);
             int place = page * PAGE
-                    + (counts.names(Law.WINDOW) ? window * COUNTS : 0)
-                    + (counts.names(Law.OTHERS) ? others : 0);
+                    + (inForce.names(Law.WINDOW) ? window * COUNTS : 0)
+                    + (inForce.names(Law.OTHERS) ? others : 0);
             if (place < 0 || place >= known.length) {
                 return 0;
             }
@@ -707,7 +707,7 @@ public final class WhichWindow {
                 told[Law.OTHERS] = others;
                 told[Law.STEP] = step;
                 told[Law.WINDOW] = window;
-                known[place] |= counts.value(told) > 0 ? mark | mark << 8 : mark;
+                known[place] |= inForce.value(told) > 0 ? mark | mark << 8 : mark;
             }
             return (known[place] & mark << 8) != 0 ? 1 : 0;
         }
@@ -796,7 +796,7 @@ public final class WhichWindow {
             return lit & ~curtains;
         }
 
-        /** Whether a window goes by the clock or the law, so that the step's number counts. */
+        /** Whether a window goes by the clock or the law, so that the step's number inForce. */
         boolean goesByStep() {
             for (int w = 0; w < WINDOWS; w++) {
                 if (habits[KIND][w] == CLOCK || habits[KIND][w] == BY_LAW) {

@@ -12,6 +12,7 @@ public final class HabitsTest {
         tape();
         faults();
         meanings();
+        countsOfBothTowers();
         lawStays();
         C.end();
     }
@@ -105,7 +106,11 @@ public final class HabitsTest {
         C.due("SEES of 12", x.of(12, 1), 0);
         C.due("again", x.habits(2, 1, 1003), 3);
         C.due("only what was undone is new", x.count(2), 7);
-        C.due("fewer than the row has", x.habits(2, 1, 1001), 1);
+        C.due("fewer than the row has", x.habits(2, 7, 1401), 1);
+        C.due("the first", x.of(14, 0), 4);
+        C.due("fewer than the row has", x.habits(2, 1, 301), 1);
+        C.due("the first", x.of(3, 0), 1);
+        C.due("not the next one", x.of(4, 0), 0);
         WhichWindow y = new WhichWindow();
         Checks.lay(y, 0, 0, 0, 12, 12);
         C.due("as it was", y.habits(0, 0, 1), 1);
@@ -282,6 +287,9 @@ public final class HabitsTest {
         means("!5", 3, 0);
         means("!0=1", 3, 1);
         means("1<2", 3, 1);
+        means("(1<2)+(2=2)+(2>1)=3", 3, 1);
+        means("1?0|1;0", 3, 1);
+        means("0|1?1;0", 3, 1);
         means("2<2", 3, 0);
         means("2>1", 3, 1);
         means("2>2", 3, 0);
@@ -295,6 +303,24 @@ public final class HabitsTest {
         means("a?m;!m", 3, 1);
         means("a?m;!m", 3, 0, 15);
         means("-1?-1;1", 3, 0);
+    }
+
+    /** The law is asked for windows 11 and 12 alike, with a count that is another one for each tower. */
+    private static void countsOfBothTowers() {
+        for (int many = 0; many <= 12; many++) {
+            WhichWindow x = new WhichWindow();
+            x.mend(11, 0, 6);
+            x.mend(12, 0, 6);
+            for (int w = 12; w < 12 + many; w++) {
+                x.lamp(w);
+            }
+            Checks.law(x, "n=" + many + "&k=11");
+            C.due("11 of " + many, x.on(1, 11), 1);
+            C.due("12 of " + many, x.on(1, 12), 0);
+            Checks.law(x, "n=0&k=12");
+            C.due("12 of none", x.on(1, 12), 1);
+            C.due("11 of none", x.on(1, 11), 0);
+        }
     }
 
     private static void lawStays() {

@@ -177,6 +177,11 @@ public final class SeenTest {
         Checks.lay(x, 0, 2, 16777215);
         C.due("all on, one night", x.tries(0, 5, 1), 85);
         C.due("nothing is switched", x.all(0, 0), 0);
+        Checks.lay(x, 0, 2, new long[60]);
+        // Sixty dark nights leave KIND 0, all of 1, 3 and 4, and no clock.
+        C.due("sixty nights", x.habit(0, 5, 0), 1 + 12 + 66 + 66);
+        C.due("sixty nights: switched by one of the pairs", x.tries(0, 5, 0), 12);
+        C.due("sixty nights: KIND 1 by it, KIND 4 of it and another", x.tries(0, 5, 1), 12);
     }
 
     private static void first() {
@@ -218,6 +223,13 @@ public final class SeenTest {
         C.due("the other one puts it out", x.game(0, 1), 22);
         C.due("eleven", x.game(0, 2), 11);
         C.due("game(20, 2)", x.game(20, 2), 13);
+        WhichWindow y = new WhichWindow();
+        for (int w = 0; w < 24; w++) {
+            y.lamp(w);
+        }
+        C.due("all on: none", y.game(0, 0), 12);
+        C.due("all on: one off", y.game(0, 1), 12);
+        C.due("twenty-three", y.game(0, 2), 23);
         int[][] bad = {{-1, 0}, {21, 0}, {0, -1}, {0, 3}, {LOW, 0}, {FAR, 0}, {0, LOW}, {0, FAR}};
         for (int[] b : bad) {
             C.due("game(" + b[0] + ", " + b[1] + ")", x.game(b[0], b[1]), -1);

@@ -144,6 +144,21 @@ public final class ThoughtTest {
         C.due("round(2)", z.round(2), -1);
         C.due("round(-1)", z.round(-1), -1);
         neverRound();
+        roundOfFiveHundred();
+    }
+
+    /** Four windows count the blocks of 60 steps; behind the last block that begins within 440 all comes again. */
+    private static void roundOfFiveHundred() {
+        WhichWindow x = new WhichWindow();
+        for (int w = 0; w < 4; w++) {
+            x.mend(w, 0, 6);
+        }
+        String counts = "s>498?k=3;(k=0&(s+41)/60%2)|(k=1&(s+41)/120%2)|(k=2&(s+41)/240%2)|(k=3&(s+41)/480)";
+        C.due("law", Checks.law(x, counts), 1);
+        C.due("both together 500", x.round(0), 440);
+        C.due("both together 500", x.round(1), 60);
+        Checks.law(x, counts.replace("41", "40"));
+        C.due("both together 501", x.round(0), -2);
     }
 
     /** Windows that count the steps in twos: no night of the first 500 comes again. */
@@ -199,6 +214,7 @@ public final class ThoughtTest {
         C.due("the source", x.set(0, 3, 0), 1);
         C.due("the source", x.set(0, 3, 1), 8192);
         C.due("four are too many", x.set(15, 1, 0), -2);
+        C.due("the first two", x.set(3, 0, 1), 3);
         C.due("two of row 0", x.set(12, 0, 0), 2);
         C.due("two of row 0", x.set(12, 0, 1), 12);
         C.due("by window 12", x.set(3, 1, 1), 4096);
