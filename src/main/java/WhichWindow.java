@@ -49,7 +49,7 @@ public final class WhichWindow {
     public int habits(int shelf, int i, int wn) {
         int window = wn / 100;
         int most = wn % 100;
-        if (!isShelf(shelf) || i < 0 || wn < 0 || !isWindow(window) || most < 1 || most > WINDOWS) {
+        if (!isShelf(shelf) || wn < 0 || !isWindow(window) || most < 1 || most > WINDOWS) {
             return BAD;
         }
         Shelf from = shelves[shelf];
@@ -336,23 +336,29 @@ public final class WhichWindow {
         return was;
     }
 
-    /** Each number is told as it is read, so what stands ahead of the end, in a three too, is so. */
+    /** A three is told whole or not at all: it ends ahead of the first one that is not so. */
     private int habitsByThrees(Shelf from, int i, int window, int most) {
         int place = i;
         for (int done = 0; done < most; done++) {
-            if (!isWindow(window + done)) {
+            if (!isThree(from, place, window + done)) {
                 return done;
             }
             for (int what = Towers.KIND; what <= Towers.ALSO; what++, place++) {
-                if (from.refusalAt(place) != 0) {
-                    return done;
-                }
-                if (mend(window + done, what, (int) from.at(place)) == BAD) {
-                    return done;
-                }
+                change(window + done, what, (int) from.at(place));
             }
         }
         return most;
+    }
+
+    /** Whether a row has, from a place on, a KIND, SEES and ALSO that a window may have. */
+    private boolean isThree(Shelf from, int place, int window) {
+        for (int what = Towers.KIND; what <= Towers.ALSO; what++) {
+            boolean isThere = isWindow(window) && from.refusalAt(place + what) == 0;
+            if (!isThere || !towers.mayBe(window, what, (int) from.at(place + what))) {
+                return false;
+            }
+        }
+        return true;
     }
 
     private static boolean isWithin(int number, int most) {

@@ -123,25 +123,24 @@ public final class HabitsTest {
         Checks.lay(x, 0, 0, 1, 13, 14, 2, 15);
         C.due("it ends within a three", x.habits(0, 0, 24), 1);
         C.due("the whole one", x.of(0, 2), 14);
-        C.due("those ahead within the three", x.of(1, 0), 2);
-        C.due("those ahead within the three", x.of(1, 1), 15);
-        C.due("those behind are not", x.of(1, 2), 13);
-        C.due("changes", x.count(2), 5);
+        C.due("KIND of the one that ends", x.of(1, 0), 0);
+        C.due("SEES of the one that ends", x.of(1, 1), 13);
+        C.due("changes", x.count(2), 3);
+        C.due("it ends behind a KIND", x.habits(0, 4, 124), 0);
+        C.due("it ends behind KIND and SEES", x.habits(0, 3, 124), 0);
+        C.due("no change", x.count(2), 3);
         C.due("from its end on", x.habits(0, 5, 24), 0);
         C.due("from far behind its end on", x.habits(0, Integer.MAX_VALUE, 24), 0);
-        Checks.lay(x, 1, 0, 3, 16, 17, 7, 16, 17);
-        C.due("a KIND is not so", x.habits(1, 0, 202), 1);
-        C.due("ahead", x.of(2, 0), 3);
-        C.due("behind", x.of(3, 1), 15);
-        Checks.lay(x, 1, 0, 3, 11, 17);
-        C.due("SEES is not so", x.habits(1, 0, 402), 0);
-        C.due("KIND ahead", x.of(4, 0), 3);
-        C.due("ALSO behind", x.of(4, 2), 16);
-        Checks.lay(x, 1, 0, 3, 17, 24);
-        C.due("ALSO is not so", x.habits(1, 0, 502), 0);
-        C.due("SEES ahead", x.of(5, 1), 17);
-        Checks.lay(x, 1, 0, -1, 16, 17);
-        C.due("KIND below 0", x.habits(1, 0, 602), 0);
+        C.due("from ahead of it on", x.habits(0, -1, 24), 0);
+        C.due("from three ahead of it on", x.habits(0, -3, 24), 0);
+        C.due("from far ahead of it on", x.habits(0, Integer.MIN_VALUE, 24), 0);
+        C.due("a missing row from ahead on", x.habits(5, -1, 24), 0);
+        threeNotSo(3, 16, 17, 7, 16, 17);
+        threeNotSo(3, 16, 17, -1, 16, 17);
+        threeNotSo(3, 16, 17, 3, 11, 17);
+        threeNotSo(3, 16, 17, 3, 24, 17);
+        threeNotSo(3, 16, 17, 3, 16, 24);
+        threeNotSo(3, 16, 17, 3, 16, -1);
         Checks.lay(x, 1, 0, 1, 2, 3, 4, 5, 6, 5, 7, 8);
         C.due("no such WINDOW", x.habits(1, 0, 2224), 2);
         C.due("22", x.of(22, 2), 3);
@@ -150,16 +149,32 @@ public final class HabitsTest {
         C.due("an empty row", x.habits(3, 0, 1), 0);
     }
 
+    /** Two threes for 2 and 3, the other one not so: nothing of it is told. */
+    private static void threeNotSo(long... bytes) {
+        WhichWindow x = new WhichWindow();
+        Checks.lay(x, 1, 0, bytes);
+        C.due("one ahead", x.habits(1, 0, 202), 1);
+        for (int what = 0; what < 3; what++) {
+            C.due("ahead " + what, x.of(2, what), bytes[what]);
+            C.due("not so " + what, x.of(3, what), what == 0 ? 0 : 15);
+        }
+        C.due("each number a change", x.count(2), 3);
+        C.due("the latest one undone", x.undo(), 2);
+        C.due("is ALSO", x.of(2, 2), 14);
+        C.due("SEES stays", x.of(2, 1), 16);
+    }
+
     private static void habitsRefused() {
         WhichWindow x = new WhichWindow();
         x.body(0);
         x.keep(1, 0);
-        int[][] bad = {{-1, 0, 1}, {6, 0, 1}, {0, -1, 1}, {0, 0, 0}, {0, 0, 25}, {0, 0, -1}, {0, 0, 2401}, {0, 0, 100},
-            {0, 0, Integer.MIN_VALUE}, {0, 0, Integer.MAX_VALUE}, {0, Integer.MIN_VALUE, 1}, {1, 0, 0}};
+        int[][] bad = {{-1, 0, 1}, {6, 0, 1}, {0, -1, 0}, {0, 0, 0}, {0, 0, 25}, {0, 0, -1}, {0, 0, 2401}, {0, 0, 100},
+            {0, 0, Integer.MIN_VALUE}, {0, 0, Integer.MAX_VALUE}, {0, -1, 2401}, {1, 0, 0}};
         for (int[] b : bad) {
             C.due("habits(" + b[0] + ", " + b[1] + ", " + b[2] + ")", x.habits(b[0], b[1], b[2]), -1);
         }
         C.due("a lamp", x.habits(1, 0, 1), -12);
+        C.due("a lamp from ahead on", x.habits(1, -1, 1), -12);
         for (int sort = 1; sort < 5; sort++) {
             x.row(2, sort, 3);
             C.due("sort " + sort, x.habits(2, 0, 1), -12);

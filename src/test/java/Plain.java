@@ -96,7 +96,7 @@ final class Plain {
     }
 
     int habits(int shelf, int i, int wn) {
-        if (shelf < 0 || shelf > 5 || i < 0 || wn < 0 || wn / 100 > 23 || wn % 100 < 1 || wn % 100 > 24) {
+        if (shelf < 0 || shelf > 5 || wn < 0 || wn / 100 > 23 || wn % 100 < 1 || wn % 100 > 24) {
             return BAD;
         }
         if (shelves[shelf] != null && !(shelves[shelf] instanceof byte[])) {
@@ -106,10 +106,14 @@ final class Plain {
         int whole = 0;
         try {
             for (int place = i; whole < wn % 100; whole++) {
+                int[] three = {row[place++], row[place++], row[place++]};
                 for (int what = 0; what < 3; what++) {
-                    if (mend(wn / 100 + whole, what, row[place++]) == BAD) {
+                    if (!allowed(wn / 100 + whole, what, three[what])) {
                         return whole;
                     }
+                }
+                for (int what = 0; what < 3; what++) {
+                    mend(wn / 100 + whole, what, three[what]);
                 }
             }
         } catch (NullPointerException | ArrayIndexOutOfBoundsException end) {
