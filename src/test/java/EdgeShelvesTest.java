@@ -58,7 +58,7 @@ public final class EdgeShelvesTest {
         C.due("BAD is named ahead of FULL", x.body(8), -1);
         C.due("BAD is named ahead of FULL", x.body(-1), -1);
         C.due("fifty", x.count(3), 50);
-        C.due("the last one is there", x.act(49, 0, 1), x.act(1, 0, 1) + 48);
+        C.due("the last one is there, of KIND 6", x.act(49, 0, 1), (1 + 49) * 2);
         C.due("there is no 50th", x.act(50, 0, 1), 0);
         C.due("the last one on a shelf", x.keep(0, 49), 1);
         C.due("of KIND 6", x.taken(0, 0), 6);
@@ -393,7 +393,7 @@ public final class EdgeShelvesTest {
             C.due("shift(0, " + d[0] + ", 1, " + d[1] + ", " + d[2] + ")", x.shift(0, d[0], 1, d[1], d[2]), d[3]);
         }
         row(x, 0, 1, 2, 3, 4, 5);
-        row(x, 1, 1, 1, 1);
+        row(x, 1, 5, 1, 1);
         WhichWindow y = new WhichWindow();
         y.row(0, BYTES, 60);
         y.row(5, BYTES, 60);
