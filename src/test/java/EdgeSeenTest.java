@@ -23,6 +23,7 @@ public final class EdgeSeenTest {
         curtainsDoNotCount();
         triesOfOneNight();
         triesAtTheLastPlace();
+        triesByTheStep();
         triesOfLikeOnes();
         triesNone();
         first();
@@ -392,6 +393,23 @@ public final class EdgeSeenTest {
         x.put(1, 59, 1);
         C.due("0 is on at the sixtieth: 1 as well: KIND 1 by both, 3 by both, 4 by one of both", x.tries(1, 23, 1), 2 + 1 + 20);
         C.due("0 is on at the sixtieth: another one", x.tries(1, 23, 0), 1);
+    }
+
+    /** The clocks tell the night behind the last place by its step: s and the place. */
+    private static void triesByTheStep() {
+        WhichWindow x = new WhichWindow();
+        // Dark at 0, 1, 2: ten clocks of EVERY 3 to 6 fit; AT 2 strikes next, of each EVERY. KIND 1 and 4 by one across.
+        x.row(0, 2, 3);
+        C.due("as it is, 12, 66, 66 and ten clocks", x.habit(0, 0, 0), 155);
+        C.due("1, 11 and four clocks", x.tries(0, 0, 1), 16);
+        x.pass(2);
+        // Dark at 2, 3, 4: of those that fit (EVERY 4 AT 0, 1; 5 AT 0, 1, 4; 6 AT 0, 1, 4, 5; 3 AT 1) at 4 strike four.
+        C.due("from step 2 on", x.habit(0, 0, 0), 155);
+        C.due("from step 2 on", x.tries(0, 0, 1), 1 + 11 + 4);
+        x.row(0, 2, 4);
+        // Dark at 2 to 5: EVERY 4 AT 1; 5 AT 0, 1; 6 AT 0, 1, 5 fit; at 5 strike EVERY 4, 5, 6.
+        C.due("four nights from step 2 on", x.habit(0, 0, 0), 145 + 6);
+        C.due("four nights from step 2 on", x.tries(0, 0, 1), 1 + 11 + 3);
     }
 
     /** "(of like ones the least WINDOW)"; the WINDOW itself may be tried. */

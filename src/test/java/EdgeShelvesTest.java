@@ -211,6 +211,10 @@ public final class EdgeShelvesTest {
         x.row(3, INTS, 2);
         C.due("a LAMP for a row", x.keep(3, 0), 1);
         C.due("no row", x.put(3, 0, 1), -12);
+        C.due("no LAMP for a row", x.row(3, BYTES, 2), 1);
+        C.due("no LAMP", x.taken(3, 0), -12);
+        C.due("a row", x.put(3, 1, 1), 1);
+        C.due("a LAMP for a row again", x.keep(3, 0), 1);
         C.due("nothing for a LAMP", x.keep(3, -1), 1);
         C.due("nothing", x.put(3, 0, 1), -11);
         C.due("a row for nothing", x.row(3, INTS, 2), 1);

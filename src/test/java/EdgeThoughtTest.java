@@ -126,6 +126,34 @@ public final class EdgeThoughtTest {
         C.due("a lamp counts", x.all(0, 0), 1);
         C.due("comes at once", x.comes(1), 0);
         C.due("not dark yet", x.dark(), 1);
+        lawFromNow();
+    }
+
+    /** At step 5 a law of step 7 is behind three steps for each call that thinks on. */
+    private static void lawFromNow() {
+        WhichWindow x = new WhichWindow();
+        for (int w = 12; w < 15; w++) {
+            x.mend(w, 0, 6);
+        }
+        Checks.law(x, "s=7");
+        x.pass(5);
+        C.due("comes", x.comes(307), 3);
+        C.due("none to set", x.set(307, 3, 0), 0);
+        C.due("not yet", x.set(307, 2, 0), -2);
+        C.due("by a curtain", x.curtain(307), 12);
+        C.due("not yet", x.canSay(3, 2), 279);
+        C.due("said, with 15, too", x.canSay(3, 3), 279 | 1 << 7 | 1 << 15);
+        C.due("dark but behind three", x.together(30, 60), 60);
+        C.due("not yet", x.together(30, 2), 3);
+        C.due("three and a lamp", x.game(3, 2), 4);
+        C.due("a lamp", x.game(2, 2), 1);
+        C.due("three nights of three", x.drawn(1, 303, 0), 9);
+        C.due("three nights of four", x.drawn(1, 304, 0), 0);
+        Checks.law(x, "s=7&m<n");
+        C.due("n by a lamp now", x.changesIt(0, 3), 7 << 12 | 1);
+        C.due("n by a lamp now, not yet", x.changesIt(0, 2), 1);
+        C.due("12 by each of the other tower", x.movedBy(12, 3), 0xFFF);
+        C.due("12 by none yet", x.movedBy(12, 2), 0);
     }
 
     private static void round(WhichWindow x, int first, int length) {
