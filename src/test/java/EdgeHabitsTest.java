@@ -19,6 +19,7 @@ public final class EdgeHabitsTest {
         ofItsOwn();
         byWhatWasAhead();
         sameWindowTwice();
+        withoutAText();
         clockEdges();
         lastStepOfClockAndLaw();
         curtainOverEachKind();
@@ -228,6 +229,31 @@ public final class EdgeHabitsTest {
             C.due("no text: 1 less 1", x.on(1, w), 0);
             x.lamp(w);
             C.due("no text: 1", x.on(1, w), 1);
+        }
+    }
+
+    /** "Without a text: a and b less m", on, if it is more than 0. */
+    private static void withoutAText() {
+        for (int abm = 0; abm < 8; abm++) {
+            WhichWindow x = new WhichWindow();
+            x.mend(5, 0, 6);
+            x.mend(5, 1, 12);
+            x.mend(5, 2, 23);
+            int a = abm & 1;
+            int b = abm >> 1 & 1;
+            int m = abm >> 2;
+            if (a == 1) {
+                x.lamp(12);
+            }
+            if (b == 1) {
+                x.lamp(23);
+            }
+            if (m == 1) {
+                x.lamp(5);
+            }
+            C.due("a " + a + ", b " + b + ", m " + m, x.on(1, 5), a + b - m > 0 ? 1 : 0);
+            Checks.law(x, "b*m-a");
+            C.due("by a text: a " + a + ", b " + b + ", m " + m, x.on(1, 5), b * m - a > 0 ? 1 : 0);
         }
     }
 

@@ -27,6 +27,7 @@ public final class EdgeShelvesTest {
         shiftAnswersFirst();
         shiftOverItself();
         shiftOfNone();
+        rowsOfTheirOwn();
         takenBounds();
         takenUnder();
         countBounds();
@@ -488,6 +489,34 @@ public final class EdgeShelvesTest {
         C.due("from 1 of none", x.shift(2, 1, 1, 0, 0), -13);
         C.due("one to none", x.shift(1, 0, 2, 0, 1), -13);
         row(x, 1, 0, 0, 0);
+    }
+
+    /** What was shifted stays as it came; SHELVES and objects know nothing of one another. */
+    private static void rowsOfTheirOwn() {
+        WhichWindow x = new WhichWindow();
+        WhichWindow other = new WhichWindow();
+        Checks.lay(x, 0, LONGS, 1, 2);
+        Checks.lay(x, 1, LONGS, 3, 4);
+        x.shift(0, 0, 1, 0, 2);
+        x.put(0, 0, 9);
+        row(x, 1, 1, 2);
+        x.put(1, 1, 8);
+        row(x, 0, 9, 2);
+        x.row(0, BYTES, 1);
+        row(x, 1, 1, 8);
+        x.lamp(3);
+        x.pass(2);
+        x.mend(0, 0, 6);
+        Checks.law(x, "1");
+        x.body(0);
+        x.image();
+        C.due("nothing on the other's shelf", other.put(0, 0, 1), -11);
+        C.due("no LAMP of the other", other.keep(0, 0), -1);
+        C.due("dark", other.all(0, 0), 0);
+        C.due("the step", other.of(0, 11), 0);
+        C.due("no image", other.back(), -5);
+        other.mend(0, 0, 6);
+        C.due("no text", other.on(1, 0), 0);
     }
 
     /** "What a SHELF holds, taken for a LAMP of KIND k (0 .. 7) ..: BAD, -11, -12." */
