@@ -380,5 +380,27 @@ public final class EdgeHabitsTest {
         C.due("two of the first", y.on(1, 23), 1);
         y.mend(1, CURTAIN, 1);
         C.due("one of the first", y.on(1, 23), 0);
+        curtainOthersSeeItOffInDeed();
+    }
+
+    private static void curtainOthersSeeItOffInDeed() {
+        WhichWindow x = new WhichWindow();
+        Checks.lamps(x, 12, 13, 5);
+        x.mend(0, 0, 6);
+        x.mend(1, 0, 1);
+        x.mend(1, 1, 12);
+        x.mend(5, 0, 6);
+        x.mend(12, CURTAIN, 1);
+        Checks.law(x, "n=1&!a|m&k=0");
+        C.due("0 by n and a, 5 by n, 13 as it is", x.pass(1), 3);
+        C.due("0 by n and a, 5 by n, 13 as it is", x.all(0, 0), 1 << 13 | 1 << 5 | 1);
+        WhichWindow y = new WhichWindow();
+        Checks.lamps(y, 12, 13, 0);
+        y.mend(0, 0, 6);
+        y.mend(13, CURTAIN, 1);
+        Checks.law(y, "n=2|m&n=1");
+        C.due("m and one of the other tower, and that one", y.pass(1), 2);
+        y.mend(12, CURTAIN, 1);
+        C.due("none of the other tower", y.pass(1), 0);
     }
 }

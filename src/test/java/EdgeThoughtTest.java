@@ -499,6 +499,11 @@ public final class EdgeThoughtTest {
         C.due("LETTER 15 never", x.curtain(15), -3);
         C.due("a curtain more on 0 changes nothing: by 1", x.curtain(14), 1);
         C.due("no curtain is put up", x.of(1, 5), 0);
+        WhichWindow y = new WhichWindow();
+        Checks.lamps(y, 20, 21);
+        y.mend(20, 5, 1);
+        C.due("the curtains that are up stay so: by 21", y.curtain(502), 21);
+        C.due("not while 20 has one", y.curtain(503), -3);
     }
 
     /** "behind any of 0 .. 100 STEPS": 100 counts, 101 does not; without, and with the CURTAIN. */
@@ -652,6 +657,22 @@ public final class EdgeThoughtTest {
         z.mend(1, 1, 12);
         C.due("3 by one lamp over there", z.canSay(0, 1), 279 | 1 << 3);
         C.due("not yet", z.canSay(0, 0), 279);
+        canSayFromNowAlone();
+    }
+
+    /** Behind two steps 15 is said if both towers have an even count now; one switched makes one of them odd. */
+    private static void canSayFromNowAlone() {
+        WhichWindow x = new WhichWindow();
+        for (int w = 0; w < 24; w++) {
+            x.mend(w, 0, 6);
+        }
+        C.due("law", Checks.law(x, "s=0?(k=0|k>11)&n%2;k<4&n=0&!(k=0&m)"), 1);
+        C.due("15 from now, 14 and 0 with one", x.canSay(0, 2), 279 | 1 << 14 | 1 << 15);
+        C.due("not yet", x.canSay(0, 1), 279);
+        x.lamp(23);
+        C.due("14 from now, 15 with one of the other tower", x.canSay(0, 2), 279 | 1 << 14 | 1 << 15);
+        x.lamp(11);
+        C.due("0 alone: both odd, one of them even", x.canSay(0, 2), 279 | 1 << 14);
     }
 
     /** "two ROWS (ab: 10 times the one ROW and the other, unlike)", n 0 .. 60. */
