@@ -802,7 +802,7 @@ public final class WhichWindow {
             return lit & ~curtains;
         }
 
-        /** Whether a window goes by the clock or the law, so that the step's number inForce. */
+        /** Whether a window goes by the clock or the law, so that the step's number counts. */
         boolean goesByStep() {
             for (int w = 0; w < WINDOWS; w++) {
                 if (habits[KIND][w] == CLOCK || habits[KIND][w] == BY_LAW) {

@@ -73,7 +73,7 @@ public final class FaceTest {
     private static void source(Checks c) throws IOException {
         String text = Files.readString(Path.of("src/main/java/WhichWindow.java"));
         String code = text.replaceAll("(?s)/\\*.*?\\*/", " ").replaceAll("//[^\n]*", " ");
-        for (String no : new String[] {"::", "\\bpackage\\b", "\\bfinally\\b", "\\bsynchronized\\b", "\\bassert\\b",
+        for (String no : new String[] {"::", "->", "\\bpackage\\b", "\\bfinally\\b", "\\bsynchronized\\b", "\\bassert\\b",
             "\\bhashCode\\b", "Exact\\b", "\\bSystem\\.(?!arraycopy)", "\\bprotected\\b", "static\\s*\\{",
             "\"[^\"]*\"\\s*\\+", "catch\\s*\\([^)]*(Array|NullPointer|ClassCast|Negative|Throwable|\\bException)"}) {
             c.due("no " + no, java.util.regex.Pattern.compile(no).matcher(code).find() ? 1 : 0, 0);
